@@ -41,6 +41,8 @@ public final class PromisesTest {
         having();
         keepAndBack();
         count();
+        byWhatWasHad();
+        lotOfYears();
         readme();
         check.end("PromisesTest");
     }
@@ -204,6 +206,11 @@ public final class PromisesTest {
         x.lay();
         check.due("no purse", x.brings(1, 0, 1), 0);
         check.due("no hours", x.cost(1, 0, 0), 0);
+        x.wipe();
+        Check.tell(x, "w7,7,7;j0,0,0;h0,1;");
+        x.lay();
+        check.due("no lot", x.cost(1, 0, 0), 1);
+        check.due("no prizes", x.drawn(1, 0, 0, 1), NONE);
         x.wipe();
         Check.tell(x, "w7,7,7;j0,0,0;p5,0,0;p1,0,0;h5,5;h1,1;f7,3;f7,2;c9;c8;");
         x.lay();
@@ -668,6 +675,51 @@ public final class PromisesTest {
         PursesByLot many = Check.laid("w1,0,5;".repeat(24) + "j0,0,0;p24,0,0;f5,8;");
         check.due("all paid", many.year(1), 24);
         writerIs(many, 5, 9, 0, 0);
+    }
+
+    /** Every call that asks for an order asks for it with what writers have had. */
+    private static void byWhatWasHad() {
+        check.about("orders by judge 2");
+        PursesByLot x = Check.laid(WORLD);
+        check.due("tell", x.tell(4, 0, 0, 0, 1), 2);
+        check.due("tell, the other", x.tell(0, 0, 4, 0, 0), 4);
+        check.due("both", x.both(4, 0, 1, 0, 2, 0), 1);
+        check.due("coin", x.coin(4, 0, 1, 0, 1), 3);
+        check.due("drawn", x.drawn(4, 0, 0, 1), 2);
+        chanceIs(x, 4, 3, 1, 1);
+        bringsAre(x, 4, 300, 350, 325, 1);
+        x.later(3, 100);
+        x.later(1, 30);
+        check.due("hair", x.hair(4, 0, 1, 1), 70);
+        // Of 1 2 3 0 by judge 0 the first that is not 3 is 1; of 3 1 2 0 by judge 2 the first that is not 1 is 3.
+        check.due("golden by the panel", x.golden(0, 4, 1, 1, 0), 1);
+        check.due("golden by the judge", x.golden(2, 1, 1, 1, 0), 0);
+        PursesByLot y = Check.laid("w10,0,0;w9,0,1;w20,0,2;w15,0,3;j0,9,0;j9,0,0;f0,9;f3,8;");
+        check.due("its order", Check.order(y, 1, 0), 0, 3, 2, 1);
+        check.due("the line", y.line(1, 0, 1, 2), 15);
+        check.due("the line's lot", y.line(1, 0, 1, 1), 3);
+        PursesByLot own = Check.laid("w10,0,0;w30,0,1;w20,99,2;j0,9,0;j9,0,0;f0,9;");
+        check.due("the judge's own first", own.golden(0, 2, 1, 4, 0), 0);
+    }
+
+    private static void lotOfYears() {
+        check.about("promise 20, the lot");
+        PursesByLot x = Check.laid("w9,0,0;w7,0,1;w6,0,2;w5,0,3;w3,0,4;w2,0,5;j0,0,0;p1,5,2;");
+        int brought = 0;
+        for (int y = 0; y < 100; y++) {
+            int z = 37 * y + 11;
+            int one = x.drawn(1, y, z, 1);
+            int two = x.drawn(1, y, z, 2);
+            brought += 9 + x.mark(one, 0, 0) + x.mark(two, 0, 0);
+            check.due("paid in year " + y, x.year(1), 3);
+            check.due("brought in year " + y, x.now(1), brought);
+        }
+        // From year 270 on 37 times the year and 11 is above 9999.
+        PursesByLot far = Check.laid("w9,0,0;w7,0,1;w5,0,2;j0,0,0;p0,3,1;");
+        for (int y = 0; y < 300; y++) {
+            far.year(1);
+            check.due("runs, year " + y, far.writer(((37 * y + 11) % 10000 + 1) % 3, 1), 0);
+        }
     }
 
     private static void writer() {
