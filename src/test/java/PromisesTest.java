@@ -473,6 +473,8 @@ public final class PromisesTest {
         lineIs("w5,0,0;w5,0,1;j0,0,0;", 1, 0, 1, 5, 1);
         lineIs("w1,0,0;w2,9,1;j9,0,0;", 1, 0, 1, 2, 1);
         lineIs("w9,9,0;w2,0,0;w2,0,0;j9,0,0;h0,1;", 1, 0, 1, 7, 1);
+        // No lot reaches beyond the last plan, though it would cost less.
+        lineIs("w0,0,0;w0,0,0;w0,0,0;j0,0,0;h0,1;", 2, 0, 3, 0, 1);
         // Below zero in lowest terms: a lot of two for one: 5 by 2 less 4.
         lineIs("w3,0,0;w2,0,1;j0,0,0;h2,4;", 1, 0, 2, -3, 2);
     }
