@@ -30,6 +30,10 @@ final class Check {
         }
     }
 
+    int asked() {
+        return asked;
+    }
+
     boolean failed() {
         return wrong != 0;
     }

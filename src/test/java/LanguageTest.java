@@ -5,8 +5,8 @@ import java.util.List;
 
 /** The rules of LANGUAGE.md that can be seen from the words of the source; run from the project's folder. */
 public final class LanguageTest {
-    private static final String[] NEVER = {"package ", "throw", "catch", "finally", "assert ", "synchronized", "->", "::",
-        "System.", "Exact(", "static {", "Random", "Thread", "double", "float", "protected ", "new ArrayList"};
+    private static final String[] NEVER = {"package ", "throw", "catch", "finally", "assert ", "synchronized", "->",
+        "::", "System.", "Exact(", "static {", "Random", "Thread", "double", "float", "protected ", "new ArrayList"};
     private static final int LONGEST_METHOD = 60;
 
     public static void main(String[] args) throws IOException {

@@ -3,7 +3,8 @@ import java.util.Random;
 /** Long runs of calls, mostly sound and now and then wrong, held against the plain model. */
 public final class ModelTest {
     private static final int RUNS = 400;
-    private static final int CALLS = 512;
+    // A step makes 100 calls at most, and no object is to be used for more than 512.
+    private static final int CALLS = 412;
     private static final int[] STRANGE = {-1, -2, 25, 31, 99, 100, 101, 999, 1000, 9999, 10000,
         Integer.MAX_VALUE, Integer.MIN_VALUE};
 
